@@ -638,9 +638,7 @@ public final class LastAtPump {
             v[p] = itsV;
             door[p] = itsDoor;
             hopes[p] = itsHopes;
-            // undo() may have left what another one of this number had.
-            said[p] = 0;
-            Arrays.fill(rows, p * PARTS, (p + 1) * PARTS, 0);
+            // SAID and the ROW are 0: nobody had this number, and undo() leaves none of whom it takes away.
             people++;
             return p;
         }
@@ -759,14 +757,16 @@ public final class LastAtPump {
             if (isAtEnd() || people < 2) {
                 return STATE;
             }
-            int p = with;
-            int q = target(p);
-            boolean isCarried = way(p, q) <= reach(p);
-            int rain = rain(p);
+            int how = carryOrTell(with, target(with));
+            // All of a STEP is by how it is ahead of it: so this comes last.
             step++;
-            if (isCarried) {
+            return how;
+        }
+
+        private int carryOrTell(int p, int q) {
+            if (way(p, q) <= reach(p)) {
+                weight = Math.max(0, Math.min(MOST_WEIGHT, weight + rain(p)));
                 with = q;
-                weight = Math.max(0, Math.min(MOST_WEIGHT, weight + rain));
                 return CARRIED;
             }
             if (hopes[p] > 0) {
@@ -1050,7 +1050,7 @@ public final class LastAtPump {
     private static final class Acts {
         static final int WAITS = 0, TELLS = 1, HOPES = 2, MOST_ACT = 2;
         private static final int MOST_KEPT = 20;
-        // An ACT opens six bodies within another at most; what would go deeper is none of the document's.
+        // A TOLD one's hopes opens six bodies one within another, and none more: what would go deeper is refused.
         private static final int MOST_OPEN = 12;
         // By ACT and KIND: the body of that KIND, or of the next one above that has one.
         private static final int[] BODIES = {
@@ -1092,21 +1092,24 @@ public final class LastAtPump {
             if (open >= MOST_OPEN) {
                 return 0;
             }
-            int inner = open + 1;
             int body = BODIES[act * KINDS + kind];
             begin(body);
+            return within(body, x, open + 1);
+        }
+
+        private int within(int body, int x, int open) {
             switch (body) {
                 case 10: return x + i;
-                case 11: return run(WAITS, own, x, inner) - v;
-                case 12: return run(TELLS, own, x, inner) * 2;
-                case 20: return run(TELLS, PERSON, x, inner) ^ 6;
-                case 30: return run(WAITS, PERSON, x * 3, inner);
-                case 40: return run(HOPES, PERSON, x, inner) + run(TELLS, own, 1, inner);
-                case 50: return -run(WAITS, OLD, x, inner);
-                case 51: return run(TELLS, OLD, x + 1, inner);
-                case 60: return run(HOPES, CHILD, x - i, inner);
-                case 70: return run(TELLS, SLY, x, inner) + run(WAITS, SLY, 2, inner);
-                default: return run(WAITS, SLY, x, inner) ^ v;
+                case 11: return run(WAITS, own, x, open) - v;
+                case 12: return run(TELLS, own, x, open) * 2;
+                case 20: return run(TELLS, PERSON, x, open) ^ 6;
+                case 30: return run(WAITS, PERSON, x * 3, open);
+                case 40: return run(HOPES, PERSON, x, open) + run(TELLS, own, 1, open);
+                case 50: return -run(WAITS, OLD, x, open);
+                case 51: return run(TELLS, OLD, x + 1, open);
+                case 60: return run(HOPES, CHILD, x - i, open);
+                case 70: return run(TELLS, SLY, x, open) + run(WAITS, SLY, 2, open);
+                default: return run(WAITS, SLY, x, open) ^ v;
             }
         }
     }
