@@ -2,8 +2,14 @@
 final class Due {
     private static int wrong = 0;
     private static int asked = 0;
+    private static String about = "";
 
     private Due() {
+    }
+
+    /** The document's words that the answers from here on are due by. */
+    static void words(String words) {
+        about = "[" + words + "] ";
     }
 
     static void is(String call, long got, long due) {
@@ -11,7 +17,7 @@ final class Due {
         if (got != due) {
             wrong++;
             if (wrong <= 40) {
-                System.out.println(call + " answered " + got + ", due is " + due);
+                System.out.println(about + call + " answered " + got + ", due is " + due);
             }
         }
     }
@@ -28,6 +34,17 @@ final class Due {
         System.out.println(asked + " answers looked at, " + wrong + " not as due");
         if (wrong != 0) {
             System.exit(1);
+        }
+    }
+
+    /** The last number beyond what is taken, on either side, and the utmost. */
+    static int[] outside(int least, int most) {
+        return new int[] {least - 1, most + 1, Integer.MIN_VALUE, Integer.MAX_VALUE};
+    }
+
+    static void steps(LastAtPump x, int n) {
+        for (int k = 0; k < n; k++) {
+            x.step();
         }
     }
 
