@@ -15,6 +15,7 @@ public final class EdgeActTest {
         noSuchPerson();
         noSuchAct();
         acts();
+        bodiesAbove();
         traceOfNone();
         traceEnds();
         traceOfTheLatest();
@@ -156,6 +157,21 @@ public final class EdgeActTest {
         Due.words("Promise 32: An ACT (0 waits, 1 tells, 2 hopes)");
         LastAtPump x = all(3);
         Due.all("0, 1, 2", new long[] {x.act(0, 0, 7), x.act(0, 1, 7), x.act(0, 2, 7)}, 7, 4, 8);
+    }
+
+    private static void bodiesAbove() {
+        Due.words("the body of its KIND, or, if that has none, of the next KIND above that has one");
+        int[][] first = {{10, 10, 30, 10, 50, 30, 71}, {11, 20, 11, 11, 51, 11, 70}, {12, 12, 12, 40, 12, 60, 40}};
+        int[][] second = {{NONE, NONE, 10, NONE, 10, 10, 10}, {10, 11, 30, 10, 20, 30, 11}, {11, 20, 11, 12, 51, 12, 12}};
+        for (int kind = 0; kind <= 6; kind++) {
+            for (int act = WAITS; act <= HOPES; act++) {
+                LastAtPump x = new LastAtPump();
+                x.person(kind, 1, 0, 0);
+                x.act(0, act, 7);
+                Due.is("kind " + kind + ", act " + act, x.trace(0), first[act][kind]);
+                Due.is("kind " + kind + ", act " + act + ", then", x.trace(1), second[act][kind]);
+            }
+        }
     }
 
     private static void traceOfNone() {

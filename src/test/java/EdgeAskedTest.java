@@ -5,6 +5,7 @@ public final class EdgeAskedTest {
     public static void main(String[] args) {
         onSteps();
         onFewerSteps();
+        onAsItGoes();
         onWhat();
         onOne();
         onNobody();
@@ -72,6 +73,29 @@ public final class EdgeAskedTest {
         LastAtPump alone = Due.street(0, 0, 1);
         alone.weight(7);
         Due.all("alone", new long[] {alone.on(99, 0), alone.on(99, 1), alone.on(99, 2), alone.on(99, 10)}, 0, 7, -5, 1);
+    }
+
+    private static void onAsItGoes() {
+        Due.words("All that follows is asked, goes on from how all is");
+        int[][] doors = {{0, 5, 9, 14, 19, 11}, {3, 3, 4, 12, 0, 8}, {19, 1, 18, 2, 17, 3}};
+        for (int street = 0; street < 3; street++) {
+            for (int turn = 0; turn <= 6; turn++) {
+                LastAtPump x = new LastAtPump();
+                for (int p = 0; p <= 5; p++) {
+                    int kind = (p + turn) % 7;
+                    x.person(kind, 9 - p, doors[street][p], (p * 5 + turn) % 4);
+                    x.row(p, p % 4, 9);
+                    x.row(p, 1, p);
+                }
+                Due.evening(x, "rain 9 k<3&s>4|p=1;dry 7 !h=0&w>1;far 11;cost 3");
+                int n = 9 + turn;
+                long[] asked = {x.on(n, 0), x.on(n, 1), x.on(n, 2), x.on(n, 10), x.on(n, 13), x.on(n, 15), x.on(n, 20),
+                    x.on(n, 23), x.on(n, 25)};
+                Due.steps(x, n);
+                Due.all("street " + street + ", turn " + turn, new long[] {x.told(1), x.told(2), x.told(3), x.of(0, 3),
+                        x.of(3, 3), x.of(5, 3), x.of(0, 4), x.of(3, 4), x.of(5, 4)}, asked);
+            }
+        }
     }
 
     private static void onWhat() {
@@ -198,6 +222,21 @@ public final class EdgeAskedTest {
             Due.is("it tells nothing there", x.stand(0, 1, 1), 0);
             Due.is("its door stays", x.of(0, 2), 9);
         }
+        // There is no door 20, where it would be dry enough: from each of the others 2 tells all that it hopes. (At 19
+        // it comes back behind 7 STEPS, too heavy.)
+        LastAtPump y = new LastAtPump();
+        y.person(6, 0, 19, 9);
+        y.person(6, 0, 13, 9);
+        y.person(3, 0, 19, 7);
+        int[][] rows = {{5, 1, 4, 3}, {1, 3, 9, 9}};
+        for (int p = 0; p <= 1; p++) {
+            for (int part = 0; part <= 3; part++) {
+                y.row(p, part, rows[p][part]);
+            }
+        }
+        Due.evening(y, "far 2;cost 1;dry 99 d>19;rain 12 d<20");
+        y.with(2);
+        Due.all("no door 20", new long[] {y.stand(2, 15, 0), y.stand(2, 15, 1)}, 0, 7);
     }
 
     private static void standOfSeveral() {

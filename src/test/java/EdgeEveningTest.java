@@ -20,6 +20,7 @@ public final class EdgeEveningTest {
         words();
         manyTermsAndFactors();
         expressionsThatEndTooEarly();
+        whatHolds();
         testsLetters();
         testsRelations();
         testsNumbers();
@@ -246,6 +247,47 @@ public final class EdgeEveningTest {
         Due.fault("dry 1 p=1!p=1", 9);
         Due.fault("dry 1 (p=1)!p=1", 11);
         Due.fault("dry 1 (p=1;far 1", 10);
+    }
+
+    /** Whether an E holds of a PERSON whose number is 0, KIND 3, DOOR 7. */
+    private static int holds(String expression) {
+        LastAtPump x = new LastAtPump();
+        x.person(3, 0, 7, 0);
+        Due.evening(x, "rain 1 " + expression);
+        return x.of(0, 7);
+    }
+
+    private static void whatHolds() {
+        Due.words("E: T or T|E. T: F or F&T. F: !F, (E), or a TEST (what holds)");
+        String[] tests = {"k=3", "k<4", "k>2", "k=4", "k<3", "k>3"};
+        for (int one = 0; one <= 5; one++) {
+            int first = one <= 2 ? 1 : 0;
+            Due.is(tests[one], holds(tests[one]), first);
+            Due.is("!" + tests[one], holds("!" + tests[one]), 1 - first);
+            Due.is("!!!" + tests[one], holds("!!!" + tests[one]), 1 - first);
+            Due.is("!(!" + tests[one] + ")", holds("!(!" + tests[one] + ")"), first);
+            for (int two = 0; two <= 5; two++) {
+                int second = two <= 2 ? 1 : 0;
+                String or = tests[one] + "|" + tests[two];
+                String and = tests[one] + "&" + tests[two];
+                Due.is(or, holds(or), first | second);
+                Due.is(and, holds(and), first & second);
+                Due.is("!(" + or + ")", holds("!(" + or + ")"), 1 - (first | second));
+                Due.is("!(" + and + ")", holds("!(" + and + ")"), 1 - (first & second));
+                Due.is("!" + or, holds("!" + or), 1 - first | second);
+                Due.is("!" + and, holds("!" + and), 1 - first & second);
+                Due.is(or + "&d>7", holds(or + "&d>7"), first);
+                Due.is(and + "|d>7", holds(and + "|d>7"), first & second);
+                Due.is("d=7|" + and, holds("d=7|" + and), 1);
+                Due.is("d=7&" + or, holds("d=7&" + or), first | second);
+                Due.is("d=6&" + or, holds("d=6&" + or), second);
+                Due.is("d=6&(" + or + ")", holds("d=6&(" + or + ")"), 0);
+                Due.is("d=7&(" + or + ")", holds("d=7&(" + or + ")"), first | second);
+                Due.is("d=7&(" + and + ")", holds("d=7&(" + and + ")"), first & second);
+                Due.is("d=6|(" + and + ")", holds("d=6|(" + and + ")"), first & second);
+                Due.is("(" + or + ")&d>6", holds("(" + or + ")&d>6"), first | second);
+            }
+        }
     }
 
     private static void testsLetters() {

@@ -299,7 +299,8 @@ public final class EdgeGameTest {
         x.tape(0, 0, 5);
         Due.is("nobody", x.judge(0, 0), -5);
         Due.is("nobody, behind all", x.judge(0, 5), -5);
-        Due.is("nobody, another sort", x.tape(1, 1, 5) == 1 ? x.judge(1, 0) : 0, CAST);
+        x.tape(1, 1, 5);
+        Due.is("nobody, another sort", x.judge(1, 0), CAST);
         Due.is("nobody, no tape", x.judge(6, 0), NONE);
     }
 

@@ -21,6 +21,8 @@ public final class EdgeRefusedTest {
         games();
         books();
         steps();
+        acts();
+        faults();
         tapes();
         shifts();
         askedOfPeople();
@@ -256,6 +258,44 @@ public final class EdgeRefusedTest {
         new Twins("alone", () -> Due.street(0, 3, 3)).refuses("step", x -> x.step(), STATE);
         ENDED.refuses("undo", x -> x.undo(), STATE);
         NOBODY.refuses("undo", x -> x.undo(), STATE);
+    }
+
+    private static void acts() {
+        Due.words("Promise 32: 0, and no TRACE then: no such PERSON, act. (nothing else changes)");
+        for (int n : Due.outside(0, 3)) {
+            NOBODY.refuses("act of person " + n, x -> x.act(n, 0, 1), 0);
+            ENDED.refuses("act of person " + n, x -> x.act(n, 0, 1), 0);
+            ROOM.alike("act of person " + n, x -> x.act(n, 0, 1), x -> x.act(0, 3, 1));
+        }
+        for (int n : Due.outside(0, 2)) {
+            ENDED.refuses("act " + n, x -> x.act(0, n, 1), 0);
+            ROOM.alike("act " + n, x -> x.act(0, n, 1), x -> x.act(4, 0, 1));
+        }
+        for (int act = 0; act <= 2; act++) {
+            int its = act;
+            ROOM.alike("an act is none of the rest", x -> actThenNone(x, its), x -> x.act(4, 0, 1));
+        }
+    }
+
+    private static int actThenNone(LastAtPump x, int act) {
+        x.act(1, act, 1);
+        return x.act(4, 0, 1);
+    }
+
+    private static void faults() {
+        Due.words("Promise 9: -10 less the FAULT (the one that held holds; nothing else changes)");
+        for (Twins twins : new Twins[] {ENDED, NOBODY}) {
+            twins.refuses("no text", x -> x.evening(), -10);
+            twins.refuses("a text that is none", x -> evening(x, "x"), -10);
+            twins.refuses("a text that ends too early", x -> evening(x, "far 3;cost 9;far "), -27);
+        }
+    }
+
+    private static int evening(LastAtPump x, String text) {
+        for (char sign : text.toCharArray()) {
+            x.feed(sign);
+        }
+        return x.evening();
     }
 
     private static void tapes() {

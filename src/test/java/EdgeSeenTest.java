@@ -40,6 +40,10 @@ public final class EdgeSeenTest {
         Due.is("0 it can be", x.from(), 1);
         x.see(0, 59);
         Due.is("59 it can't", x.from(), 0);
+        x.see(-1, 0);
+        x.see(1, 60);
+        Due.is("1 behind 60", x.from(), 2);
+        Due.is("by no hopes, as 0 has it", x.had(0, 0), 0);
     }
 
     private static void seeNobody() {

@@ -31,6 +31,7 @@ public final class EdgeStepTest {
         aheadOfTheStep();
         stepIsOneMore();
         whatStepAnswers();
+        stepIs9999();
         Due.end();
     }
 
@@ -227,6 +228,10 @@ public final class EdgeStepTest {
             LastAtPump x = reacher(kind, 3, 5, 6);
             x.weight(999);
             Due.is("2 is within, 3 is not", x.of(0, 6), 2);
+            LastAtPump first = Due.street(0, 14, 0, 13, 0);
+            first.step();
+            first.person(kind, 9, 0, 0);
+            Due.is("the first of all", first.of(2, 6), 0);
         }
         LastAtPump x = one(DREADFUL, 3, 0, 4, 0, 3, 0, 17, 0);
         Due.is("dreadful at step 0: its own door is within 0", x.of(0, 6), 2);
@@ -425,11 +430,30 @@ public final class EdgeStepTest {
 
     private static void whatStepAnswers() {
         Due.words("Promise 11: 0 it was carried, 1 it was told, 2 somebody is LAST. STATE: none goes");
-        // That STEP is 9999, no run of 512 calls comes to; it goes as far as such a run does.
         LastAtPump x = Due.street(0, 4, 0, 4, 0);
         for (int step = 0; step < 500; step++) {
             Due.is("step " + step, x.step(), 0);
         }
         Due.is("500", x.told(0), 500);
+    }
+
+    /** No run of 512 calls comes to these; what more calls answer is free, but so alone it can be seen. */
+    private static void stepIs9999() {
+        Due.words("Promise 11: STATE: .. or STEP is 9999. (STEPS, SAID also beyond 9999, in what is asked)");
+        LastAtPump x = Due.street(0, 0, 9, 19, 9);
+        Due.evening(x, "cost 0");
+        for (int step = 0; step < 9999; step++) {
+            x.set(0, 1, 9);
+            Due.is("step " + step, x.step(), 1);
+        }
+        Due.all("9999", new long[] {x.told(0), x.of(0, 4)}, 9999, 9999);
+        Due.is("no more", x.step(), STATE);
+        Due.all("9999 still", new long[] {x.told(0), x.of(0, 3), x.of(0, 4)}, 9999, 8, 9999);
+        Due.all("asked", new long[] {x.on(8, 20), x.on(9, 2), x.ends()}, 10007, 0, 9);
+        Due.is("a game", x.game(0, 0), 1);
+        x.set(0, 1, 0);
+        Due.is("goes", x.gone(2), 0);
+        x.book(0, 9999);
+        Due.is("the book", x.looked(), -5);
     }
 }

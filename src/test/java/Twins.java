@@ -31,6 +31,14 @@ final class Twins {
         same(words, one);
     }
 
+    /** That two calls change the same. */
+    void alike(String words, Call call, Call other) {
+        LastAtPump one = scene.get();
+        LastAtPump two = scene.get();
+        Due.is(name + ": " + words, call.of(one), other.of(two));
+        Due.all(name + ": behind " + words, new Facts(one).all(), new Facts(two).all());
+    }
+
     /** That a call changes something: else the others' sameness says nothing. */
     void changes(String words, Call call) {
         LastAtPump one = scene.get();
