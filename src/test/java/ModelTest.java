@@ -66,10 +66,12 @@ public final class ModelTest {
         if (random.nextInt(wrong) != 0) {
             return least + random.nextInt(most - least + 1);
         }
-        switch (random.nextInt(4)) {
+        switch (random.nextInt(6)) {
             case 0: return least - 1;
             case 1: return most + 1;
             case 2: return least - 2 - random.nextInt(9);
+            case 3: return Integer.MIN_VALUE + random.nextInt(2);
+            case 4: return Integer.MAX_VALUE - random.nextInt(2);
             default: return random.nextInt();
         }
     }
