@@ -608,7 +608,6 @@ public final class LastAtPump {
         int step;
         int last = MISSING;
         Evening evening;
-        private final int[] facts = new int[Evening.LETTERS.length()];
 
         void become(Street other) {
             System.arraycopy(other.kind, 0, kind, 0, MOST_PEOPLE);
@@ -673,16 +672,19 @@ public final class LastAtPump {
         }
 
         int rain(int p) {
-            if (evening == null) {
-                return 0;
+            return evening == null ? 0 : evening.rain(this, p);
+        }
+
+        /** What a letter, by its place in Evening.LETTERS, tells of p. */
+        int fact(int letter, int p) {
+            switch (letter) {
+                case 0: return p;
+                case 1: return kind[p];
+                case 2: return door[p];
+                case 3: return hopes[p];
+                case 4: return weight / 10;
+                default: return step % 10;
             }
-            facts[0] = p;
-            facts[1] = kind[p];
-            facts[2] = door[p];
-            facts[3] = hopes[p];
-            facts[4] = weight / 10;
-            facts[5] = step % 10;
-            return evening.rain(facts);
         }
 
         int reach(int p) {
@@ -752,12 +754,13 @@ public final class LastAtPump {
             return best;
         }
 
-        /** A STEP: how it went, or STATE if none goes. */
+        /** A STEP: how it went, or STATE if none goes: at the END, or if there is nobody to carry it to. */
         int move() {
-            if (isAtEnd() || people < 2) {
+            int other = isAtEnd() ? MISSING : target(with);
+            if (other == MISSING) {
                 return STATE;
             }
-            int how = carryOrTell(with, target(with));
+            int how = carryOrTell(with, other);
             // All of a STEP is by how it is ahead of it: so this comes last.
             step++;
             return how;
@@ -832,12 +835,12 @@ public final class LastAtPump {
             return sort << 16 | letter << 8 | n;
         }
 
-        int rain(int[] facts) {
+        int rain(Street street, int p) {
             int together = 0;
             // A stack of bits, the lowest is the newest: ( and ! go 4 deep, so 11 bits are the most.
             int held = 0;
             for (int at = 0; at < codes.length; at++) {
-                int fact = facts[codes[at] >> 8 & 255];
+                int fact = street.fact(codes[at] >> 8 & 255, p);
                 int n = codes[at] & 255;
                 switch (codes[at] >> 16) {
                     case LESS:
